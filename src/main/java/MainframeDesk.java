@@ -142,7 +142,7 @@ public final class MainframeDesk {
             return NONE;
         }
         int count = 0;
-        for (int number = 1; number <= MOST_THINGS; number++) {
+        for (int number = 1; number <= made; number++) {
             Thing thing = find(number);
             if (thing != null && thing.there && thing.kind == kind) {
                 count++;
@@ -171,7 +171,7 @@ public final class MainframeDesk {
 
     /** The thing with that number, or null when none was made with it. */
     private Thing find(int number) {
-        return number >= 1 && number <= made && number <= MOST_THINGS ? things[number - 1] : null;
+        return number >= 1 && number <= made ? things[number - 1] : null;
     }
 
     /** NOT_REFUSED only for a call that is one and a thing that is not null. */
